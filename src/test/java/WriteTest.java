@@ -3,6 +3,7 @@ public final class WriteTest {
     public static void main(String[] args) {
         texts();
         longest();
+        fullTwice();
         keptWriting();
         Check.finish();
     }
@@ -53,6 +54,19 @@ public final class WriteTest {
         written(text, text);
         String signs = "(" + "f._vw~/".repeat(149) + "f._vw~)";
         written(signs + "b".repeat(1500 - signs.length()), signs + "b".repeat(1500 - signs.length()));
+    }
+
+    /** All rooms full, twice on one object: nothing of the first text takes room from the second. */
+    private static void fullTwice() {
+        String signs = "(" + "g".repeat(150) + ",".repeat(30) + "zc1axay".repeat(20) + ")";
+        String text = signs + "b".repeat(1500 - signs.length());
+        ChantNeumes x = new ChantNeumes();
+        for (int i = 0; i < 2; i++) {
+            Check.due("read()", Check.read(x, text), 150);
+            Check.due("written with all signs", Check.written(x), text);
+            Check.due("read()", Check.read(x, "a".repeat(1500)), 0);
+            Check.due("written with all letters", Check.written(x), "a".repeat(1500));
+        }
     }
 
     private static void keptWriting() {
