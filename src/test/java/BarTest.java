@@ -7,7 +7,7 @@ public final class BarTest {
     }
 
     private static void bars() {
-        ChantNeumes x = Check.of("(,f;gh)a(: ::i:::)");
+        Chant x = Check.of("(,f;gh)a(: ::i:::)");
         Check.due("count(4)", x.count(4), 6);
         Check.due("kinds", Check.row(6, i -> x.bar(i, 0)), "1 2 3 4 4 3");
         Check.due("notes before", Check.row(6, i -> x.bar(i, 1)), "0 1 3 3 4 4");
@@ -18,7 +18,7 @@ public final class BarTest {
     }
 
     private static void guides(String text, String want) {
-        ChantNeumes x = Check.of(text);
+        Chant x = Check.of(text);
         Check.due("guides of \"" + text + "\"", Check.row(x.count(5), x::guide), want);
         Check.due("guide behind the last", x.guide(x.count(5)), -101);
         Check.due("guide(-1)", x.guide(-1), -101);

@@ -1,7 +1,7 @@
 /** Promise 19: count. */
 public final class CountTest {
     public static void main(String[] args) {
-        ChantNeumes x = Check.of("(c4) Ky'(fghij,k)ri(gx/fw~)e(h gf::z) e(c3gfezz)lei()");
+        Chant x = Check.of("(c4) Ky'(fghij,k)ri(gx/fw~)e(h gf::z) e(c3gfezz)lei()");
         Check.due("counts", Check.row(9, x::count), "6 13 6 7 2 3 3 0 2");
         x.feed(0, 0, 0, 0, 0);
         Check.due("count(7)", x.count(7), 20);

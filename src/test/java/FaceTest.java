@@ -37,7 +37,7 @@ public final class FaceTest {
     }
 
     private static void newObject() {
-        ChantNeumes x = new ChantNeumes();
+        Chant x = new Chant();
         Check.due("counts", Check.row(9, x::count), "0 0 0 0 0 0 0 0 0");
         Check.due("place()", x.place(), -100);
         Check.due("syllable(0, 0)", x.syllable(0, 0), -101);

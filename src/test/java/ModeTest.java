@@ -8,7 +8,7 @@ public final class ModeTest {
     }
 
     private static void mode(String text, String want) {
-        ChantNeumes x = Check.of(text);
+        Chant x = Check.of(text);
         Check.due("mode of \"" + text + "\"", Check.row(5, x::mode), want);
     }
 
@@ -43,7 +43,7 @@ public final class ModeTest {
     }
 
     private static void wrong() {
-        ChantNeumes x = Check.of("a(c4,z)");
+        Chant x = Check.of("a(c4,z)");
         Check.due("modes without notes", Check.row(5, x::mode), "-103 -103 -103 -103 -103");
         Check.due("mode(5)", x.mode(5), -102);
         Check.due("mode(-1)", x.mode(-1), -102);

@@ -8,12 +8,12 @@ public final class NeumeTest {
         Check.finish();
     }
 
-    private static String all(ChantNeumes x, int what) {
+    private static String all(Chant x, int what) {
         return Check.row(x.count(3), i -> x.neume(i, what));
     }
 
     private static void kinds(String text, String kinds, String firsts, String notes) {
-        ChantNeumes x = Check.of(text);
+        Chant x = Check.of(text);
         Check.due("kinds of \"" + text + "\"", all(x, 0), kinds);
         Check.due("first notes of \"" + text + "\"", all(x, 1), firsts);
         Check.due("notes of \"" + text + "\"", all(x, 2), notes);
@@ -60,12 +60,12 @@ public final class NeumeTest {
     }
 
     private static void liquid() {
-        ChantNeumes x = Check.of("(f~ fg~ f~g fghgf~e~ fghi~ f~)");
+        Chant x = Check.of("(f~ fg~ f~g fghgf~e~ fghi~ f~)");
         Check.due("liquid", all(x, 3), "1 1 0 1 1 0 1 1");
     }
 
     private static void wrong() {
-        ChantNeumes x = Check.of("(fg)");
+        Chant x = Check.of("(fg)");
         Check.due("neume(1, 0)", x.neume(1, 0), -101);
         Check.due("neume(-1, 4)", x.neume(-1, 4), -101);
         Check.due("neume(0, 4)", x.neume(0, 4), -102);

@@ -11,7 +11,7 @@ public final class NoteTest {
         Check.finish();
     }
 
-    private static String all(ChantNeumes x, int what) {
+    private static String all(Chant x, int what) {
         return Check.row(x.count(1), i -> x.note(i, what));
     }
 
@@ -72,7 +72,7 @@ public final class NoteTest {
     }
 
     private static void wrong() {
-        ChantNeumes x = Check.of("(fg)");
+        Chant x = Check.of("(fg)");
         Check.due("note(2, 0)", x.note(2, 0), -101);
         Check.due("note(-1, 0)", x.note(-1, 0), -101);
         Check.due("note(2, 8)", x.note(2, 8), -101);

@@ -46,12 +46,12 @@ public final class PsalmModelTest {
     }
 
     private static void compare(int tone, int half, String verse) {
-        ChantNeumes x = PsalmTest.sing(tone, half, verse);
+        Chant x = PsalmTest.sing(tone, half, verse);
         String got = Check.row(3, i -> x.half(half, i + 1)) + " = " + PsalmTest.steps(x, half);
         Check.due("tone " + tone + ", half " + half + ", " + verse, got, fit(tone, half, verse));
     }
 
-    private static String fit(int tone, int half, String verse) {
+    static String fit(int tone, int half, String verse) {
         if (verse.isEmpty()) {
             return "1 -100 -100 = ";
         }

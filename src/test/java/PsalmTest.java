@@ -13,8 +13,8 @@ public final class PsalmTest {
     }
 
     /** The verse: a ' for a syllable with the accent, a - for one without. */
-    static ChantNeumes sing(int tone, int half, String syllables) {
-        ChantNeumes x = new ChantNeumes();
+    static Chant sing(int tone, int half, String syllables) {
+        Chant x = new Chant();
         x.tone(tone);
         for (int i = 0; i < syllables.length(); i++) {
             Check.due("point()", x.point(half, syllables.charAt(i) == '\''), i + 1);
@@ -22,7 +22,7 @@ public final class PsalmTest {
         return x;
     }
 
-    static String steps(ChantNeumes x, int half) {
+    static String steps(Chant x, int half) {
         StringBuilder out = new StringBuilder();
         for (int k = 0; k < x.half(half, 0); k++) {
             out.append(k == 0 ? "" : " ").append(x.sung(half, k, 0)).append(':').append(x.sung(half, k, 1));
@@ -31,7 +31,7 @@ public final class PsalmTest {
     }
 
     private static void fits(int tone, int half, String syllables, String form, String steps) {
-        ChantNeumes x = sing(tone, half, syllables);
+        Chant x = sing(tone, half, syllables);
         String name = "tone " + tone + ", half " + half + ", " + syllables;
         Check.due(name + ": short, first, last", Check.row(3, i -> x.half(half, i + 1)), form);
         Check.due(name + ": steps", steps(x, half), steps);
@@ -40,7 +40,7 @@ public final class PsalmTest {
     }
 
     private static void tones() {
-        ChantNeumes x = new ChantNeumes();
+        Chant x = new Chant();
         Check.due("tone(8)", x.tone(8), 1);
         Check.due("tone(0)", x.tone(0), -102);
         Check.due("tone(9)", x.tone(9), -102);
@@ -55,7 +55,7 @@ public final class PsalmTest {
     }
 
     private static void points() {
-        ChantNeumes x = new ChantNeumes();
+        Chant x = new Chant();
         for (int i = 1; i <= 40; i++) {
             Check.due("point(0)", x.point(0, false), i);
         }
@@ -128,7 +128,7 @@ public final class PsalmTest {
     }
 
     private static void wrong() {
-        ChantNeumes x = sing(2, 0, "-----'-");
+        Chant x = sing(2, 0, "-----'-");
         Check.due("half(2, 0)", x.half(2, 0), -102);
         Check.due("half(-1, 0)", x.half(-1, 0), -102);
         Check.due("half(0, 4)", x.half(0, 4), -102);

@@ -1,7 +1,5 @@
 /** Promises 4 (read) and 5 (place): what can stand where, and the three faults. */
 public final class ReadTest {
-    private static final ChantNeumes X = new ChantNeumes();
-
     public static void main(String[] args) {
         good();
         strange();
@@ -13,14 +11,11 @@ public final class ReadTest {
     }
 
     private static void reads(String text, int notes) {
-        Check.due("read() of \"" + text + "\"", Check.read(X, text), notes);
-        Check.due("place() of \"" + text + "\"", X.place(), -100);
+        Check.reads(new Chant(), text, notes);
     }
 
     private static void faults(String text, int fault, int place) {
-        Check.due("read() of \"" + text + "\"", Check.read(X, text), -10 - fault);
-        Check.due("place() of \"" + text + "\"", X.place(), place);
-        Check.due("counts of \"" + text + "\"", Check.row(9, X::count), "0 0 0 0 0 0 0 0 0");
+        Check.faults(new Chant(), text, fault, place);
     }
 
     private static void good() {
@@ -149,14 +144,15 @@ public final class ReadTest {
     }
 
     private static void textOfNothing() {
-        reads("a(c3f,z)", 1);
-        faults("a(", 1, 2);
-        Check.due("note(0, 0)", X.note(0, 0), -101);
-        Check.due("guide(0)", X.guide(0), -101);
-        Check.due("mode(0)", X.mode(0), -103);
-        Check.due("write()", X.write(), 0);
+        Chant x = new Chant();
+        Check.reads(x, "a(c3f,z)", 1);
+        Check.faults(x, "a(", 1, 2);
+        Check.due("note(0, 0)", x.note(0, 0), -101);
+        Check.due("guide(0)", x.guide(0), -101);
+        Check.due("mode(0)", x.mode(0), -103);
+        Check.due("write()", x.write(), 0);
         // The clef is c 4 again.
-        reads("(j)", 1);
-        Check.due("note(0, 5)", X.note(0, 5), 0);
+        Check.reads(x, "(j)", 1);
+        Check.due("note(0, 5)", x.note(0, 5), 0);
     }
 }

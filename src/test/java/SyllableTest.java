@@ -1,7 +1,7 @@
 /** Promise 6: syllable. */
 public final class SyllableTest {
     public static void main(String[] args) {
-        ChantNeumes x = Check.of(" (c4)\nKy'(fg.)ri(gx/fw~)e(hgf::z)  \n lei'so'n() abc (d)(e)f ");
+        Chant x = Check.of(" (c4)\nKy'(fg.)ri(gx/fw~)e(hgf::z)  \n lei'so'n() abc (d)(e)f ");
         int n = x.count(0);
         Check.due("count(0)", n, 9);
         Check.due("WORDS", Check.row(n, i -> x.syllable(i, 0)), "0 1 1 1 2 3 4 4 4");

@@ -11,7 +11,7 @@ public final class TapeTest {
     }
 
     private static void orderOfBytes() {
-        ChantNeumes x = new ChantNeumes();
+        Chant x = new Chant();
         Check.due("feed", x.feed(0x41424344, 0x45464748, 0x494A4B4C, 0x4D4E4F50, 0x51525354), 20);
         Check.due("feed", x.feed(0x55565758, 0x595A6162, 0x63646566, 0x6768696A, 0x6B6C6D6E), 40);
         x.read();
@@ -26,7 +26,7 @@ public final class TapeTest {
     }
 
     private static void room() {
-        ChantNeumes x = new ChantNeumes();
+        Chant x = new Chant();
         for (int i = 1; i <= 75; i++) {
             Check.due("feed", x.feed(BLANKS, BLANKS, BLANKS, BLANKS, BLANKS), 20 * i);
         }
@@ -42,7 +42,7 @@ public final class TapeTest {
     }
 
     private static void ends() {
-        ChantNeumes x = new ChantNeumes();
+        Chant x = new Chant();
         Check.due("end(0)", x.end(0), 0);
         Check.due("end(1)", x.end(1), -102);
         Check.due("end(-1)", x.end(-1), -102);
@@ -60,7 +60,7 @@ public final class TapeTest {
     }
 
     private static void emptyBehindRead() {
-        ChantNeumes x = new ChantNeumes();
+        Chant x = new Chant();
         Check.feed(x, "A(fg)");
         Check.due("count(7)", x.count(7), 5);
         Check.due("count(1)", x.count(1), 0);

@@ -9,10 +9,9 @@ public final class WriteTest {
     }
 
     private static void written(String text, String want) {
-        ChantNeumes x = Check.of(text);
-        Check.due("written of \"" + text + "\"", Check.written(x), want);
-        Check.due("write()", x.write(), want.length());
-        Check.due("written anew", Check.written(Check.of(want)), want);
+        Check.due("written of \"" + text + "\"", Check.writtenOf(text), want);
+        Check.due("write()", Check.of(text).write(), want.length());
+        Check.due("written anew", Check.writtenOf(want), want);
     }
 
     private static void texts() {
@@ -60,17 +59,21 @@ public final class WriteTest {
     private static void fullTwice() {
         String signs = "(" + "g".repeat(150) + ",".repeat(30) + "zc1axay".repeat(20) + ")";
         String text = signs + "b".repeat(1500 - signs.length());
-        ChantNeumes x = new ChantNeumes();
-        for (int i = 0; i < 2; i++) {
+        String letters = "a".repeat(1499) + "'";
+        for (int from = 0; from < 1500; from += 150) {
+            Chant x = new Chant();
             Check.due("read()", Check.read(x, text), 150);
-            Check.due("written with all signs", Check.written(x), text);
-            Check.due("read()", Check.read(x, "a".repeat(1500)), 0);
-            Check.due("written with all letters", Check.written(x), "a".repeat(1500));
+            Check.due("read()", Check.read(x, letters), 0);
+            Check.due("write() of all letters", x.write(), 1500);
+            Check.due("letters behind signs", Check.bytes(x, from, from + 100), letters.substring(from, from + 100));
+            Check.due("read()", Check.read(x, text), 150);
+            Check.due("write() of all signs", x.write(), 1500);
+            Check.due("signs behind letters", Check.bytes(x, from, from + 150), text.substring(from, from + 150));
         }
     }
 
     private static void keptWriting() {
-        ChantNeumes x = Check.of("ab (f)");
+        Chant x = Check.of("ab (f)");
         Check.due("at(0) before write()", x.at(0), -100);
         Check.due("write()", x.write(), 6);
         Check.due("at(0)", x.at(0), 'a');
