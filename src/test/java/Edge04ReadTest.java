@@ -24,6 +24,7 @@ public final class Edge04ReadTest {
         howManyNotes();
         tapeIsEmptyThen();
         textIsNothingThen();
+        nothingStandsBeforeAText();
         Check.finish();
     }
 
@@ -324,6 +325,27 @@ public final class Edge04ReadTest {
             Check.due("the first NOTE", Check.row(8, what -> x.note(0, what)), "9 0 0 0 0 0 0 2");
             Check.due("the second NOTE", Check.row(8, what -> x.note(1, what)), "6 0 0 0 0 -3 -5 2");
             Check.due("its SYLLABLE", Check.row(6, what -> x.syllable(0, what)), "0 0 0 1 2 0");
+        }
+    }
+
+    private static void nothingStandsBeforeAText() {
+        Check.promise(4, "the text is nothing then: where a faulty text broke off, the next one does not go on");
+        for (String broken : new String[] {"(g", "(g.", "(gx", "(c", "(:", "(g/", "(g)a)", "a)", "a(", "(g..", "(" + "g".repeat(151)}) {
+            String[] texts = {"(.)", "(x)", "(4)", ".", "g.)", "a)"};
+            int[] places = {1, 1, 1, 0, 1, 1};
+            for (int i = 0; i < texts.length; i++) {
+                Chant x = new Chant();
+                Check.due("read() of \"" + broken + "\"", Math.max(Check.read(x, broken), -10), -10);
+                Check.faults(x, texts[i], 1, places[i]);
+            }
+            Chant y = new Chant();
+            Check.read(y, broken);
+            Check.reads(y, "(:g)", 1);
+            Check.due("its BAR", y.bar(0, 0), 3);
+            Check.due("its NOTE", Check.row(8, what -> y.note(0, what)), "6 0 0 0 0 -3 -5 2");
+            Check.read(y, broken);
+            Check.reads(y, "gx", 0);
+            Check.due("its SYLLABLE", Check.row(6, what -> y.syllable(0, what)), "0 2 0 0 0 -100");
         }
     }
 }

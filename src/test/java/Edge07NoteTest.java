@@ -144,6 +144,11 @@ public final class Edge07NoteTest {
         for (String end : new String[] {"iy", ",", ";", ":", "::", "c4", ") (", ")\n(", ") a b(", ",ixiy"}) {
             column("(ixi" + end + "i)", 6, "-2 -1");
         }
+        // Of every height, the lowest and the highest too.
+        String all = "axbxcxdxexfxgxhxixjxkxlxmx";
+        for (String end : new String[] {all.replace('x', 'y'), ",", ";", ":", "::", "c4", ") (", ")\n("}) {
+            column("(" + all + end + "abcdefghijklm)", 6, "-15 -13 -12 -10 -8 -7 -5 -3 -1 0 2 4 5");
+        }
         column("(ixic3i)", 6, "-2 2");
         column("(ixif4i)", 6, "-2 -8");
         column("(axmxiyamayamaxam)", 6, "-16 4 -15 4 -16 4");

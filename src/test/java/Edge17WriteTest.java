@@ -11,6 +11,7 @@ public final class Edge17WriteTest {
         noGroupBehind();
         colons();
         shorter();
+        fullBehindFull();
         afterFaults();
         leavesTheRest();
         Check.finish();
@@ -57,6 +58,10 @@ public final class Edge17WriteTest {
         written("(g)(g) (g)\n()", "(g)(g) (g) ()");
         written("(g)a", "(g)a");
         written("(g) a", "(g) a");
+        // WORDS of one SYLLABLE and of more, one behind the other.
+        written("a b()c", "a b()c");
+        written("a()b c", "a()b c");
+        written("a b()c d()()e f  g()h", "a b()c d()()e f g()h");
     }
 
     private static void brackets() {
@@ -168,6 +173,26 @@ public final class Edge17WriteTest {
         Check.due("write() again", Check.written(x), "a(g)");
         x.read();
         Check.due("write() of an empty tape's text", x.write(), 0);
+    }
+
+    private static void fullBehindFull() {
+        Check.promise(17, "how many bytes: 1,500 at most, of a full text behind other full ones too");
+        String signs = "(" + "g".repeat(150) + "::".repeat(30) + "zc1axay".repeat(20) + ")";
+        String text = signs + "b".repeat(1500 - signs.length());
+        String letters = "a".repeat(1499) + "'";
+        for (int from = 0; from < 1500; from += 100) {
+            Chant x = new Chant();
+            Check.reads(x, letters, 0);
+            Check.due("write()", x.write(), 1500);
+            Check.reads(x, text, 150);
+            Check.due("write()", x.write(), 1500);
+            Check.reads(x, text, 150);
+            Check.due("write() again", x.write(), 1500);
+            Check.due("bytes from " + from, Check.bytes(x, from, from + 100), text.substring(from, from + 100));
+            Check.reads(x, letters, 0);
+            Check.due("write()", x.write(), 1500);
+            Check.due("the last bytes", Check.bytes(x, 1490, 1500), letters.substring(1490));
+        }
     }
 
     private static void afterFaults() {
