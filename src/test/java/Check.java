@@ -14,7 +14,7 @@ final class Check {
     private Check() {
     }
 
-    /** The promise and the words of the document that the calls from here on hold. */
+    /** The promise, and the words of the document or what follows from them, that the calls from here on hold. */
     static void promise(int number, String words) {
         sentences++;
         heading = "promise " + number + ", \"" + words + "\": ";
