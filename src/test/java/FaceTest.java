@@ -3,9 +3,18 @@ import java.lang.reflect.Field;
 import java.lang.reflect.Method;
 import java.lang.reflect.Modifier;
 import java.util.Arrays;
+import java.util.stream.Collectors;
 
 /** The public face, and promise 1: a new object. */
 public final class FaceTest {
+    private static final String[] FACE = {
+        "public int feed(int, int, int, int, int)", "public int end(int)", "public int read()", "public int place()",
+        "public int syllable(int, int)", "public int note(int, int)", "public int neume(int, int)",
+        "public int bar(int, int)", "public int guide(int)", "public int mode(int)", "public int tone(int)",
+        "public int point(int, boolean)", "public int fresh()", "public int half(int, int)",
+        "public int sung(int, int, int)", "public int write()", "public int at(int)", "public int count(int)"
+    };
+
     public static void main(String[] args) {
         constants();
         members();
@@ -25,15 +34,29 @@ public final class FaceTest {
         Check.due("modifiers", ChantNeumes.class.getModifiers(), Modifier.PUBLIC | Modifier.FINAL);
         Constructor<?>[] constructors = ChantNeumes.class.getDeclaredConstructors();
         Check.due("constructors", constructors.length, 1);
-        String[] methods = Arrays.stream(ChantNeumes.class.getDeclaredMethods())
+        Check.due("the constructor", constructors[0].toString(), "public ChantNeumes()");
+        Method[] methods = Arrays.stream(ChantNeumes.class.getDeclaredMethods())
                 .filter(m -> !Modifier.isPrivate(m.getModifiers()) && !m.isSynthetic())
-                .map(Method::getName).sorted().toArray(String[]::new);
-        Check.due("methods", String.join(" ", methods), "at bar count end feed fresh guide half mode"
-                + " neume note place point read sung syllable tone write");
+                .toArray(Method[]::new);
+        Check.due("how many methods", methods.length, FACE.length);
+        for (String due : FACE) {
+            boolean there = Arrays.stream(methods).anyMatch(m -> told(m).equals(due));
+            Check.due("the face has " + due, there ? 1 : 0, 1);
+        }
         String[] fields = Arrays.stream(ChantNeumes.class.getDeclaredFields())
                 .filter(f -> !Modifier.isPrivate(f.getModifiers()) && !f.isSynthetic())
-                .map(Field::getName).sorted().toArray(String[]::new);
-        Check.due("fields", String.join(" ", fields), "NONE OUTSIDE ROOM STATE UNKNOWN");
+                .map(Field::toString).sorted().toArray(String[]::new);
+        String[] names = {"NONE", "OUTSIDE", "ROOM", "STATE", "UNKNOWN"};
+        Check.due("how many fields", fields.length, names.length);
+        for (int i = 0; i < Math.min(fields.length, names.length); i++) {
+            Check.due("a field", fields[i], "public static final int ChantNeumes." + names[i]);
+        }
+    }
+
+    /** A method as the document's face has it, without the names of its parameters. */
+    private static String told(Method m) {
+        return Modifier.toString(m.getModifiers()) + " " + m.getReturnType().getName() + " " + m.getName()
+                + Arrays.stream(m.getParameterTypes()).map(Class::getName).collect(Collectors.joining(", ", "(", ")"));
     }
 
     private static void newObject() {
